@@ -506,7 +506,7 @@ public final class BitWell {
         // The longest one is for a MAC: a block of 128, V of 64, one byte, 48 fresh bytes and a tape of 240.
         static final int MESSAGE_MOST = 512;
 
-        private static final int PADDED_MOST = 768;
+        private static final int PADDED_MOST = 640;
 
         final int length;
         final int[] padded = new int[PADDED_MOST];
@@ -523,8 +523,11 @@ public final class BitWell {
 
         abstract void restart();
 
-        /** Works in the block that begins at a place of the padded message. */
-        abstract void compress(int start);
+        /** The words of the block that begins at a place of the padded message. */
+        abstract void spread(int start);
+
+        /** Works the words that were spread into the eight of the digest. */
+        abstract void compress();
 
         abstract long word(int k);
 
@@ -542,7 +545,8 @@ public final class BitWell {
             padded[total - 1] = bits & 0xFF;
             restart();
             for (int start = 0; start < total; start += block) {
-                compress(start);
+                spread(start);
+                compress();
             }
             out.clear();
             for (int k = 0; k < 8; k++) {
@@ -606,20 +610,17 @@ public final class BitWell {
             super(4);
         }
 
-        @Override
         void restart() {
             for (int k = 0; k < 8; k++) {
                 h[k] = FIRST[k];
             }
         }
 
-        @Override
         long word(int k) {
             return k >= 0 && k < 8 ? h[k] : 0;
         }
 
-        @Override
-        void compress(int start) {
+        void spread(int start) {
             if (start < 0 || start > padded.length - 64) {
                 return;
             }
@@ -630,14 +631,17 @@ public final class BitWell {
             for (int t = 16; t < 64; t++) {
                 int x = w[t - 15];
                 int y = w[t - 2];
-                int s0 = Integer.rotateRight(x, 7) ^ Integer.rotateRight(x, 18) ^ (x >>> 3);
-                int s1 = Integer.rotateRight(y, 17) ^ Integer.rotateRight(y, 19) ^ (y >>> 10);
+                int s0 = turned(x, 7) ^ turned(x, 18) ^ (x >>> 3);
+                int s1 = turned(y, 17) ^ turned(y, 19) ^ (y >>> 10);
                 w[t] = w[t - 16] + s0 + w[t - 7] + s1;
             }
-            rounds();
         }
 
-        private void rounds() {
+        private static int turned(int x, int n) {
+            return x >>> n | x << 32 - n;
+        }
+
+        void compress() {
             int a = h[0];
             int b = h[1];
             int c = h[2];
@@ -647,9 +651,9 @@ public final class BitWell {
             int g = h[6];
             int z = h[7];
             for (int t = 0; t < 64; t++) {
-                int s1 = Integer.rotateRight(e, 6) ^ Integer.rotateRight(e, 11) ^ Integer.rotateRight(e, 25);
+                int s1 = turned(e, 6) ^ turned(e, 11) ^ turned(e, 25);
                 int t1 = z + s1 + ((e & f) ^ (~e & g)) + ROUND[t] + w[t];
-                int s0 = Integer.rotateRight(a, 2) ^ Integer.rotateRight(a, 13) ^ Integer.rotateRight(a, 22);
+                int s0 = turned(a, 2) ^ turned(a, 13) ^ turned(a, 22);
                 int t2 = s0 + ((a & b) ^ (a & c) ^ (b & c));
                 z = g;
                 g = f;
@@ -706,20 +710,17 @@ public final class BitWell {
             super(8);
         }
 
-        @Override
         void restart() {
             for (int k = 0; k < 8; k++) {
                 h[k] = FIRST[k];
             }
         }
 
-        @Override
         long word(int k) {
             return k >= 0 && k < 8 ? h[k] : 0;
         }
 
-        @Override
-        void compress(int start) {
+        void spread(int start) {
             if (start < 0 || start > padded.length - 128) {
                 return;
             }
@@ -733,14 +734,17 @@ public final class BitWell {
             for (int t = 16; t < 80; t++) {
                 long x = w[t - 15];
                 long y = w[t - 2];
-                long s0 = Long.rotateRight(x, 1) ^ Long.rotateRight(x, 8) ^ (x >>> 7);
-                long s1 = Long.rotateRight(y, 19) ^ Long.rotateRight(y, 61) ^ (y >>> 6);
+                long s0 = turned(x, 1) ^ turned(x, 8) ^ (x >>> 7);
+                long s1 = turned(y, 19) ^ turned(y, 61) ^ (y >>> 6);
                 w[t] = w[t - 16] + s0 + w[t - 7] + s1;
             }
-            rounds();
         }
 
-        private void rounds() {
+        private static long turned(long x, int n) {
+            return x >>> n | x << 64 - n;
+        }
+
+        void compress() {
             long a = h[0];
             long b = h[1];
             long c = h[2];
@@ -750,9 +754,9 @@ public final class BitWell {
             long g = h[6];
             long z = h[7];
             for (int t = 0; t < 80; t++) {
-                long s1 = Long.rotateRight(e, 14) ^ Long.rotateRight(e, 18) ^ Long.rotateRight(e, 41);
+                long s1 = turned(e, 14) ^ turned(e, 18) ^ turned(e, 41);
                 long t1 = z + s1 + ((e & f) ^ (~e & g)) + ROUND[t] + w[t];
-                long s0 = Long.rotateRight(a, 28) ^ Long.rotateRight(a, 34) ^ Long.rotateRight(a, 39);
+                long s0 = turned(a, 28) ^ turned(a, 34) ^ turned(a, 39);
                 long t2 = s0 + ((a & b) ^ (a & c) ^ (b & c));
                 z = g;
                 g = f;
@@ -1086,7 +1090,6 @@ public final class BitWell {
             by = desk.digestOf(isGreat(kind));
         }
 
-        @Override
         void plant(Row fresh, Row given) {
             desk.message.clear();
             if (!isNew()) {
@@ -1099,7 +1102,6 @@ public final class BitWell {
             by.stretch(desk.message, seedLength, other);
         }
 
-        @Override
         void produce(int n, Row given, Row out) {
             if (given.length() > 0) {
                 beginMessage(0x02);
@@ -1139,7 +1141,6 @@ public final class BitWell {
             by = desk.digestOf(isGreat(kind));
         }
 
-        @Override
         void plant(Row fresh, Row given) {
             if (isNew()) {
                 other.becomeSame(0x00, seedLength);
@@ -1149,7 +1150,6 @@ public final class BitWell {
             mix(desk.material);
         }
 
-        @Override
         void produce(int n, Row given, Row out) {
             if (given.length() > 0) {
                 mix(given);
@@ -1184,7 +1184,6 @@ public final class BitWell {
             keyLength = seedLength - Cipher.BLOCK;
         }
 
-        @Override
         void plant(Row fresh, Row given) {
             if (isNew()) {
                 other.becomeSame(0, keyLength);
@@ -1201,7 +1200,6 @@ public final class BitWell {
             mix(material);
         }
 
-        @Override
         void produce(int n, Row given, Row out) {
             // Left empty or short, it is mixed in as if 0s stood behind it.
             Row material = desk.material;

@@ -1,4 +1,5 @@
 import java.util.ArrayList;
+import java.util.Arrays;
 import java.util.HexFormat;
 import java.util.List;
 
@@ -72,13 +73,26 @@ final class Check {
         int before = well.source(0);
         for (int from = 0; from < bytes.length; from += 240) {
             int to = Math.min(bytes.length, from + 240);
-            tape(well, java.util.Arrays.copyOfRange(bytes, from, to));
+            tape(well, Arrays.copyOfRange(bytes, from, to));
             same("supply()", before + to, well.supply());
         }
     }
 
     static void supply(BitWell well, String hex) {
         supply(well, HEX.parseHex(hex));
+    }
+
+    /** Bytes that differ from their neighbours, and differ by where they begin: they pass every test of the supply. */
+    static byte[] bytes(int n, int first) {
+        byte[] bytes = new byte[n];
+        for (int k = 0; k < n; k++) {
+            bytes[k] = (byte) (first + 7 * k + k / 256);
+        }
+        return bytes;
+    }
+
+    static String hex(byte[] bytes) {
+        return HEX.formatHex(bytes);
     }
 
     static String drawn(BitWell well) {
@@ -93,8 +107,9 @@ final class Check {
     /** Part 0 or 1 of a generator's state, as far as it goes. */
     static String state(BitWell well, int g, int part) {
         List<Integer> bytes = new ArrayList<>();
-        for (int k = 0; k < 200 && well.state(g, part, k) != BitWell.NONE; k++) {
-            bytes.add(well.state(g, part, k));
+        for (int b = well.state(g, part, 0); b != BitWell.NONE && bytes.size() < 200; ) {
+            bytes.add(b);
+            b = well.state(g, part, bytes.size());
         }
         return hex(bytes);
     }
