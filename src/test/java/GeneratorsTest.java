@@ -1,5 +1,6 @@
 import java.nio.ByteBuffer;
 import java.util.Arrays;
+import java.util.HexFormat;
 
 /** Promises 7 to 13: generators are opened, seeded anew, asked for bytes, looked at and closed. */
 public final class GeneratorsTest {
@@ -36,6 +37,9 @@ public final class GeneratorsTest {
         orderOfDrawsRefusals();
         orderOfReseedsRefusals();
         generatorsAreApart();
+        generatorsTakeTurns();
+        countersGoBeyond(6);
+        countersGoBeyond(7);
         intervalOfManyDrawings();
         Check.finish();
     }
@@ -443,6 +447,48 @@ public final class GeneratorsTest {
             Check.same("V of another", v[g], Check.state(well, g, 0).substring(0, 8));
             Check.same("COUNT of another", 1, well.generator(g, 2));
             Check.same("bytes of another", 0, well.generator(g, 6));
+        }
+    }
+
+    /** What one generator leaves behind in its work must not reach the next one. */
+    private static void generatorsTakeTurns() {
+        for (int first = 0; first < 8; first++) {
+            for (int second = 0; second < 8; second++) {
+                GeneratorsTest one = new GeneratorsTest();
+                one.fill(240);
+                one.tape(30, first);
+                one.open(first, 128, false, 1);
+                one.tape(31, second);
+                one.open(second, 128, false, 1);
+                for (int k = 0; k < 4; k++) {
+                    int g = k & 1;
+                    one.tape(k, 50 + k);
+                    Check.same("draw", one.oracle.draw(g, 20, 0, false), one.well.draw(g, 20, 0, false));
+                    for (int at = 0; at < 20; at++) {
+                        Check.same("kinds " + first + " and " + second, one.oracle.drawn(at), one.well.drawn(at));
+                    }
+                }
+            }
+        }
+    }
+
+    /** The fresh bytes are chosen so that V is all FF, or nearly so: its sums are cut. */
+    private static void countersGoBeyond(int kind) {
+        for (String v : new String[] {"ff".repeat(16), "00" + "ff".repeat(15), "ff".repeat(15) + "fe"}) {
+            byte[] stream = {};
+            int keyLength = OTHER_LENGTH[kind];
+            for (int k = 1; 16 * k <= SEED[kind]; k++) {
+                stream = Oracle.join(stream, Oracle.encrypt(new byte[keyLength], Oracle.number(k, 16)));
+            }
+            byte[] wanted = Oracle.join(Check.bytes(keyLength, 1), HexFormat.of().parseHex(v));
+            GeneratorsTest one = new GeneratorsTest();
+            Check.supply(one.well, Oracle.xor(stream, wanted));
+            one.oracleTape(Oracle.xor(stream, wanted));
+            one.oracle.supply();
+            one.open(kind, 128, false, 9);
+            Check.same("V", v, Check.state(one.well, 0, 0));
+            one.draw(50, false);
+            one.look(kind);
         }
     }
 

@@ -58,8 +58,7 @@ public final class LanguageTest {
             "public int size()");
     private static final Set<Tree.Kind> RULED_OUT = EnumSet.of(
             Tree.Kind.THROW, Tree.Kind.TRY, Tree.Kind.CATCH, Tree.Kind.SYNCHRONIZED, Tree.Kind.ASSERT,
-            Tree.Kind.LAMBDA_EXPRESSION, Tree.Kind.MEMBER_REFERENCE, Tree.Kind.IMPORT, Tree.Kind.STRING_LITERAL,
-            Tree.Kind.DIVIDE_ASSIGNMENT, Tree.Kind.REMAINDER, Tree.Kind.REMAINDER_ASSIGNMENT);
+            Tree.Kind.LAMBDA_EXPRESSION, Tree.Kind.MEMBER_REFERENCE);
 
     private LanguageTest() {
     }
@@ -134,7 +133,7 @@ public final class LanguageTest {
         @Override
         public Void scan(Tree tree, Void nothing) {
             if (tree != null && RULED_OUT.contains(tree.getKind())) {
-                Check.fail("rule 3, 4, 6 or 7: " + tree.getKind() + " in line " + line(tree));
+                Check.fail("rule 2 or 6: " + tree.getKind() + " in line " + line(tree));
             }
             return super.scan(tree, nothing);
         }
