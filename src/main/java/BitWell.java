@@ -26,7 +26,6 @@ public final class BitWell {
 
     private final Row tape = new Row(TAPE_MOST);
     private final Row output = new Row(DRAWN_MOST);
-    private final Row fresh = new Row(Generator.FRESH_MOST);
     private final Supply raw = new Supply();
     private final Desk desk = new Desk();
     private final Generator[] generators = new Generator[GENERATORS];
@@ -90,7 +89,8 @@ public final class BitWell {
         if (refusal != 0) {
             return -refusal;
         }
-        seed(made);
+        made.plant(raw.give(made.demand()), tape);
+        tape.clear();
         generators[g] = made;
         return g;
     }
@@ -111,10 +111,12 @@ public final class BitWell {
             return NO_GENERATOR;
         }
         int refusal = refusalToSeed(one, resistance);
-        if (refusal == 0) {
-            seed(one);
+        if (refusal != 0) {
+            return refusal;
         }
-        return refusal;
+        one.plant(raw.give(one.demand()), tape);
+        tape.clear();
+        return 0;
     }
 
     public int draw(int g, int n, int strength, boolean resistance) {
@@ -133,14 +135,14 @@ public final class BitWell {
             if (refusal != 0) {
                 return refusal;
             }
-            // This empties the tape, and so the drawing behind it is without one.
-            seed(one);
+            one.plant(raw.give(one.demand()), tape);
+            // The seeding has had what was given: the drawing behind it goes without.
+            tape.clear();
         } else if (one.isTooLong(tape)) {
             return TAPE_TOO_LONG;
         }
         output.clear();
         one.produce(n, tape, output);
-        one.noteDrawing(n);
         tape.clear();
         return 0;
     }
@@ -236,13 +238,6 @@ public final class BitWell {
             return NO_RESISTANCE;
         }
         return one.demand() > raw.waiting() ? SUPPLY_TOO_SMALL : 0;
-    }
-
-    private void seed(Generator one) {
-        raw.give(one.demand(), fresh);
-        one.plant(fresh, tape);
-        one.noteSeeding();
-        tape.clear();
     }
 
     /** Bytes, each held as 0 to 255; what would go beyond the room that it was made with is left out. */
@@ -383,6 +378,7 @@ public final class BitWell {
         private static final int PART_LEAST = 2;
 
         private final Row waiting = new Row(WAITING_MOST);
+        private final Row given = new Row(Generator.FRESH_MOST);
         private int repeats = 5;
         private int window = 512;
         private int part = 40;
@@ -479,10 +475,12 @@ public final class BitWell {
             waiting.clear();
         }
 
-        void give(int n, Row into) {
-            into.becomePart(waiting, 0, n);
+        /** The answer is a row of the supply's own, which the next call fills again. */
+        Row give(int n) {
+            given.becomePart(waiting, 0, n);
             waiting.dropFirst(n);
-            taken += into.length();
+            taken += given.length();
+            return given;
         }
 
         int look(int what) {
@@ -500,182 +498,15 @@ public final class BitWell {
         }
     }
 
-    /** D of the document, with the MAC and the DERIVE that are made of it. */
-    private abstract static class Digest {
+    /** D of the document, SHA-256 or SHA-512, with the MAC and the DERIVE that are made of it. */
+    private static final class Digest {
         static final int LENGTH_MOST = 64;
         // The longest one is for a MAC: a block of 128, V of 64, one byte, 48 fresh bytes and a tape of 240.
         static final int MESSAGE_MOST = 512;
 
         private static final int PADDED_MOST = 640;
-
-        final int length;
-        final int[] padded = new int[PADDED_MOST];
-        private final int block;
-        private final int wordBytes;
-        private final Row input = new Row(MESSAGE_MOST);
-        private final Row result = new Row(LENGTH_MOST);
-
-        Digest(int wordBytes) {
-            this.wordBytes = wordBytes;
-            this.length = 8 * wordBytes;
-            this.block = 16 * wordBytes;
-        }
-
-        abstract void restart();
-
-        /** The words of the block that begins at a place of the padded message. */
-        abstract void spread(int start);
-
-        /** Works the words that were spread into the eight of the digest. */
-        abstract void compress();
-
-        abstract long word(int k);
-
-        /** The message is read whole before the answer is written, so both may be the same row. */
-        final void hash(Row message, Row out) {
-            int n = message.copyTo(padded, MESSAGE_MOST);
-            // The length in bits takes the room of two words, of which the last two bytes are enough here.
-            int total = (n + 2 * wordBytes + block) & -block;
-            int bits = 8 * n;
-            padded[n] = 0x80;
-            for (int k = n + 1; k < total; k++) {
-                padded[k] = 0;
-            }
-            padded[total - 2] = bits >>> 8;
-            padded[total - 1] = bits & 0xFF;
-            restart();
-            for (int start = 0; start < total; start += block) {
-                spread(start);
-                compress();
-            }
-            out.clear();
-            for (int k = 0; k < 8; k++) {
-                out.appendNumber(word(k), wordBytes);
-            }
-        }
-
-        /** The key and the message are read before the answer is written, so it may be the row of either. */
-        final void keyed(Row key, Row message, Row out) {
-            beginWithKey(key, 0x36);
-            input.appendRow(message);
-            hash(input, result);
-            beginWithKey(key, 0x5C);
-            input.appendRow(result);
-            hash(input, out);
-        }
-
-        private void beginWithKey(Row key, int mask) {
-            input.clear();
-            for (int k = 0; k < block; k++) {
-                int b = k < key.length() ? key.at(k) : 0;
-                input.append(b ^ mask);
-            }
-        }
-
-        /** The message is read before the answer is written, so both may be the same row. */
-        final void stretch(Row message, int n, Row out) {
-            input.clear();
-            input.append(0);
-            input.appendNumber(8L * n, 4);
-            input.appendRow(message);
-            out.clear();
-            for (int i = 1; i <= n && out.length() < n; i++) {
-                input.put(0, i);
-                hash(input, result);
-                out.appendPart(result, 0, n - out.length());
-            }
-        }
-    }
-
-    private static final class Sha256 extends Digest {
-        private static final int[] FIRST = {
-            0x6A09E667, 0xBB67AE85, 0x3C6EF372, 0xA54FF53A,
-            0x510E527F, 0x9B05688C, 0x1F83D9AB, 0x5BE0CD19
-        };
-        private static final int[] ROUND = {
-            0x428A2F98, 0x71374491, 0xB5C0FBCF, 0xE9B5DBA5, 0x3956C25B, 0x59F111F1, 0x923F82A4, 0xAB1C5ED5,
-            0xD807AA98, 0x12835B01, 0x243185BE, 0x550C7DC3, 0x72BE5D74, 0x80DEB1FE, 0x9BDC06A7, 0xC19BF174,
-            0xE49B69C1, 0xEFBE4786, 0x0FC19DC6, 0x240CA1CC, 0x2DE92C6F, 0x4A7484AA, 0x5CB0A9DC, 0x76F988DA,
-            0x983E5152, 0xA831C66D, 0xB00327C8, 0xBF597FC7, 0xC6E00BF3, 0xD5A79147, 0x06CA6351, 0x14292967,
-            0x27B70A85, 0x2E1B2138, 0x4D2C6DFC, 0x53380D13, 0x650A7354, 0x766A0ABB, 0x81C2C92E, 0x92722C85,
-            0xA2BFE8A1, 0xA81A664B, 0xC24B8B70, 0xC76C51A3, 0xD192E819, 0xD6990624, 0xF40E3585, 0x106AA070,
-            0x19A4C116, 0x1E376C08, 0x2748774C, 0x34B0BCB5, 0x391C0CB3, 0x4ED8AA4A, 0x5B9CCA4F, 0x682E6FF3,
-            0x748F82EE, 0x78A5636F, 0x84C87814, 0x8CC70208, 0x90BEFFFA, 0xA4506CEB, 0xBEF9A3F7, 0xC67178F2
-        };
-
-        private final int[] h = new int[8];
-        private final int[] w = new int[64];
-
-        Sha256() {
-            super(4);
-        }
-
-        void restart() {
-            for (int k = 0; k < 8; k++) {
-                h[k] = FIRST[k];
-            }
-        }
-
-        long word(int k) {
-            return k >= 0 && k < 8 ? h[k] : 0;
-        }
-
-        void spread(int start) {
-            if (start < 0 || start > padded.length - 64) {
-                return;
-            }
-            for (int t = 0; t < 16; t++) {
-                int k = start + 4 * t;
-                w[t] = padded[k] << 24 | padded[k + 1] << 16 | padded[k + 2] << 8 | padded[k + 3];
-            }
-            for (int t = 16; t < 64; t++) {
-                int x = w[t - 15];
-                int y = w[t - 2];
-                int s0 = turned(x, 7) ^ turned(x, 18) ^ (x >>> 3);
-                int s1 = turned(y, 17) ^ turned(y, 19) ^ (y >>> 10);
-                w[t] = w[t - 16] + s0 + w[t - 7] + s1;
-            }
-        }
-
-        private static int turned(int x, int n) {
-            return x >>> n | x << 32 - n;
-        }
-
-        void compress() {
-            int a = h[0];
-            int b = h[1];
-            int c = h[2];
-            int d = h[3];
-            int e = h[4];
-            int f = h[5];
-            int g = h[6];
-            int z = h[7];
-            for (int t = 0; t < 64; t++) {
-                int s1 = turned(e, 6) ^ turned(e, 11) ^ turned(e, 25);
-                int t1 = z + s1 + ((e & f) ^ (~e & g)) + ROUND[t] + w[t];
-                int s0 = turned(a, 2) ^ turned(a, 13) ^ turned(a, 22);
-                int t2 = s0 + ((a & b) ^ (a & c) ^ (b & c));
-                z = g;
-                g = f;
-                f = e;
-                e = d + t1;
-                d = c;
-                c = b;
-                b = a;
-                a = t1 + t2;
-            }
-            h[0] += a;
-            h[1] += b;
-            h[2] += c;
-            h[3] += d;
-            h[4] += e;
-            h[5] += f;
-            h[6] += g;
-            h[7] += z;
-        }
-    }
-
-    private static final class Sha512 extends Digest {
+        private static final int ROUNDS_MOST = 80;
+        // Parts of roots of primes, 64 bits of them: SHA-512 uses all, SHA-256 the 32 high ones.
         private static final long[] FIRST = {
             0x6A09E667F3BCC908L, 0xBB67AE8584CAA73BL, 0x3C6EF372FE94F82BL, 0xA54FF53A5F1D36F1L,
             0x510E527FADE682D1L, 0x9B05688C2B3E6C1FL, 0x1F83D9ABFB41BD6BL, 0x5BE0CD19137E2179L
@@ -702,49 +533,84 @@ public final class BitWell {
             0x28DB77F523047D84L, 0x32CAAB7B40C72493L, 0x3C9EBE0A15C9BEBCL, 0x431D67C49C100D4CL,
             0x4CC5D4BECB3E42B6L, 0x597F299CFC657E2AL, 0x5FCB6FAB3AD6FAECL, 0x6C44198C4A475817L
         };
+        // By how many bits words are turned: three each for the two sums over the message, then for those over e and a.
+        private static final int[] SMALL_TURNS = {7, 18, 3, 17, 19, 10, 6, 11, 25, 2, 13, 22};
+        private static final int[] GREAT_TURNS = {1, 8, 7, 19, 61, 6, 14, 18, 41, 28, 34, 39};
 
+        final int length;
+        private final int wordBytes;
+        private final int wordBits;
+        private final long mask;
+        private final int block;
+        private final int rounds;
+        private final int[] turns;
+        private final int[] padded = new int[PADDED_MOST];
         private final long[] h = new long[8];
-        private final long[] w = new long[80];
+        private final long[] w = new long[ROUNDS_MOST];
+        private final Row input = new Row(MESSAGE_MOST);
+        private final Row result = new Row(LENGTH_MOST);
 
-        Sha512() {
-            super(8);
+        Digest(boolean great) {
+            wordBytes = great ? 8 : 4;
+            wordBits = 8 * wordBytes;
+            mask = -1L >>> (64 - wordBits);
+            length = 8 * wordBytes;
+            block = 16 * wordBytes;
+            rounds = great ? ROUNDS_MOST : 64;
+            turns = great ? GREAT_TURNS : SMALL_TURNS;
         }
 
-        void restart() {
+        /** The message is read whole before the answer is written, so both may be the same row. */
+        void hash(Row message, Row out) {
+            int total = pad(message.copyTo(padded, MESSAGE_MOST));
             for (int k = 0; k < 8; k++) {
-                h[k] = FIRST[k];
+                h[k] = FIRST[k] >>> (64 - wordBits);
+            }
+            for (int start = 0; start < total; start += block) {
+                spread(start);
+                compress();
+            }
+            out.clear();
+            for (int k = 0; k < 8; k++) {
+                out.appendNumber(h[k], wordBytes);
             }
         }
 
-        long word(int k) {
-            return k >= 0 && k < 8 ? h[k] : 0;
+        /** Pads what stands behind the first n bytes; the answer is the length then, a number of whole blocks. */
+        private int pad(int n) {
+            int total = (n + 1 + 2 * wordBytes + block - 1) & -block;
+            padded[n] = 0x80;
+            for (int k = n + 1; k < total; k++) {
+                padded[k] = 0;
+            }
+            // The number of bits has room for two words, but of so short a message two bytes are enough.
+            int bits = 8 * n;
+            padded[total - 2] = bits >>> 8;
+            padded[total - 1] = bits & 0xFF;
+            return total;
         }
 
-        void spread(int start) {
-            if (start < 0 || start > padded.length - 128) {
+        private void spread(int start) {
+            if (start < 0 || start > PADDED_MOST - block) {
                 return;
             }
             for (int t = 0; t < 16; t++) {
                 long word = 0;
-                for (int k = 0; k < 8; k++) {
-                    word = word << 8 | padded[start + 8 * t + k];
+                for (int k = 0; k < wordBytes; k++) {
+                    word = word << 8 | padded[start + wordBytes * t + k];
                 }
                 w[t] = word;
             }
-            for (int t = 16; t < 80; t++) {
+            for (int t = 16; t < rounds; t++) {
                 long x = w[t - 15];
                 long y = w[t - 2];
-                long s0 = turned(x, 1) ^ turned(x, 8) ^ (x >>> 7);
-                long s1 = turned(y, 19) ^ turned(y, 61) ^ (y >>> 6);
-                w[t] = w[t - 16] + s0 + w[t - 7] + s1;
+                long s0 = turned(x, turns[0]) ^ turned(x, turns[1]) ^ x >>> turns[2];
+                long s1 = turned(y, turns[3]) ^ turned(y, turns[4]) ^ y >>> turns[5];
+                w[t] = (w[t - 16] + s0 + w[t - 7] + s1) & mask;
             }
         }
 
-        private static long turned(long x, int n) {
-            return x >>> n | x << 64 - n;
-        }
-
-        void compress() {
+        private void compress() {
             long a = h[0];
             long b = h[1];
             long c = h[2];
@@ -753,28 +619,64 @@ public final class BitWell {
             long f = h[5];
             long g = h[6];
             long z = h[7];
-            for (int t = 0; t < 80; t++) {
-                long s1 = turned(e, 14) ^ turned(e, 18) ^ turned(e, 41);
-                long t1 = z + s1 + ((e & f) ^ (~e & g)) + ROUND[t] + w[t];
-                long s0 = turned(a, 28) ^ turned(a, 34) ^ turned(a, 39);
-                long t2 = s0 + ((a & b) ^ (a & c) ^ (b & c));
+            for (int t = 0; t < rounds; t++) {
+                long s1 = turned(e, turns[6]) ^ turned(e, turns[7]) ^ turned(e, turns[8]);
+                long t1 = z + s1 + (e & f ^ ~e & g) + (ROUND[t] >>> (64 - wordBits)) + w[t];
+                long s0 = turned(a, turns[9]) ^ turned(a, turns[10]) ^ turned(a, turns[11]);
+                long t2 = s0 + (a & b ^ a & c ^ b & c);
                 z = g;
                 g = f;
                 f = e;
-                e = d + t1;
+                e = (d + t1) & mask;
                 d = c;
                 c = b;
                 b = a;
-                a = t1 + t2;
+                a = (t1 + t2) & mask;
             }
-            h[0] += a;
-            h[1] += b;
-            h[2] += c;
-            h[3] += d;
-            h[4] += e;
-            h[5] += f;
-            h[6] += g;
-            h[7] += z;
+            h[0] = (h[0] + a) & mask;
+            h[1] = (h[1] + b) & mask;
+            h[2] = (h[2] + c) & mask;
+            h[3] = (h[3] + d) & mask;
+            h[4] = (h[4] + e) & mask;
+            h[5] = (h[5] + f) & mask;
+            h[6] = (h[6] + g) & mask;
+            h[7] = (h[7] + z) & mask;
+        }
+
+        private long turned(long x, int n) {
+            return (x >>> n | x << (wordBits - n)) & mask;
+        }
+
+        /** The key and the message are read before the answer is written, so it may be the row of either. */
+        void keyed(Row key, Row message, Row out) {
+            beginWithKey(key, 0x36);
+            input.appendRow(message);
+            hash(input, result);
+            beginWithKey(key, 0x5C);
+            input.appendRow(result);
+            hash(input, out);
+        }
+
+        private void beginWithKey(Row key, int filler) {
+            input.clear();
+            for (int k = 0; k < block; k++) {
+                int b = k < key.length() ? key.at(k) : 0;
+                input.append(b ^ filler);
+            }
+        }
+
+        /** The message is read before the answer is written, so both may be the same row. */
+        void stretch(Row message, int n, Row out) {
+            input.clear();
+            input.append(0);
+            input.appendNumber(8L * n, 4);
+            input.appendRow(message);
+            out.clear();
+            for (int i = 1; i <= n && out.length() < n; i++) {
+                input.put(0, i);
+                hash(input, result);
+                out.appendPart(result, 0, n - out.length());
+            }
         }
     }
 
@@ -940,8 +842,8 @@ public final class BitWell {
         final Row message = new Row(Digest.MESSAGE_MOST);
         final Row material = new Row(Digest.MESSAGE_MOST);
         final Row block = new Row(Digest.LENGTH_MOST);
-        private final Sha256 small = new Sha256();
-        private final Sha512 great = new Sha512();
+        private final Digest small = new Digest(false);
+        private final Digest great = new Digest(true);
 
         Digest digestOf(boolean isGreat) {
             return isGreat ? great : small;
@@ -1100,6 +1002,7 @@ public final class BitWell {
             by.stretch(desk.message, seedLength, v);
             beginMessage(0x00);
             by.stretch(desk.message, seedLength, other);
+            noteSeeding();
         }
 
         void produce(int n, Row given, Row out) {
@@ -1119,6 +1022,7 @@ public final class BitWell {
             addDigest();
             v.plusRow(other);
             v.plusNumber(count());
+            noteDrawing(n);
         }
 
         private void beginMessage(int mark) {
@@ -1148,6 +1052,7 @@ public final class BitWell {
             }
             desk.join(fresh, given);
             mix(desk.material);
+            noteSeeding();
         }
 
         void produce(int n, Row given, Row out) {
@@ -1159,6 +1064,7 @@ public final class BitWell {
                 out.appendPart(v, 0, n - out.length());
             }
             mix(given);
+            noteDrawing(n);
         }
 
         private void mix(Row material) {
@@ -1198,6 +1104,7 @@ public final class BitWell {
                 material.xorPart(given, 0);
             }
             mix(material);
+            noteSeeding();
         }
 
         void produce(int n, Row given, Row out) {
@@ -1217,6 +1124,7 @@ public final class BitWell {
                 out.appendPart(desk.block, 0, n - out.length());
             }
             mix(material);
+            noteDrawing(n);
         }
 
         private void mix(Row material) {
