@@ -8,6 +8,7 @@ final class Check {
     private static final HexFormat HEX = HexFormat.of();
     private static int checked = 0;
     private static int wrong = 0;
+    private static String place = "";
 
     private Check() {
     }
@@ -36,7 +37,16 @@ final class Check {
 
     static void fail(String text) {
         wrong++;
-        System.out.println(text);
+        System.out.println(place + text);
+    }
+
+    /** What is checked from here on is told with this name ahead of it. */
+    static void begin(String name) {
+        place = name + ": ";
+    }
+
+    static int checked() {
+        return checked;
     }
 
     static void finish() {
