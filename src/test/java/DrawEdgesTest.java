@@ -271,8 +271,12 @@ public final class DrawEdgesTest {
             int n = (reasons & 2) != 0 ? 4097 : 4096;
             int strength = (reasons & 4) != 0 ? 129 : 128;
             boolean resistance = (reasons & 16) != 0;
-            int want = reasons == 0 ? 0 : Integer.numberOfTrailingZeros(reasons) + 1;
-            run.answers(want, name(g, n, strength, resistance), well -> well.draw(g, n, strength, resistance));
+            if (reasons == 0) {
+                draws(run, 0, n, strength, resistance);
+            } else {
+                int want = Integer.numberOfTrailingZeros(reasons) + 1;
+                run.refuses(want, name(g, n, strength, resistance), well -> well.draw(g, n, strength, resistance));
+            }
         }
     }
 
@@ -322,6 +326,16 @@ public final class DrawEdgesTest {
                 apart = apart.then(well -> well.draw(0, 37, 0, false));
                 draws(Kinds.inUse(kind, true, 9, 50).tape(given), 0, 37, 0, true).sameAs(apart, "resistance");
             }
+        }
+    }
+
+    static void promise10_aSeedingAheadOfADrawingOfNothing() {
+        for (int kind = 0; kind < 8; kind++) {
+            int left = 50 - Kinds.fresh(kind, 128);
+            draws(due(kind, false, 50).tape(3), 0, 0, 0, false)
+                    .source(left).size(0).generator(0, 2, 2).generator(0, 7, 2).tapeIs(new byte[0]);
+            draws(Kinds.inUse(kind, true, 9, 50).tape(3), 0, 0, 0, true)
+                    .source(left).size(0).generator(0, 2, 2).generator(0, 7, 2).tapeIs(new byte[0]);
         }
     }
 

@@ -264,8 +264,11 @@ public final class OpenEdgesTest {
             int interval = (reasons & 2) != 0 ? 0 : 1;
             int strength = (reasons & 8) != 0 ? 129 : 128;
             run = run.tape((reasons & 16) != 0 ? 33 : 32);
-            int want = reasons == 0 ? 3 : answers[Integer.numberOfTrailingZeros(reasons)];
-            opens(run, want, kind, strength, interval);
+            if (reasons == 0) {
+                opens(run, 3, kind, strength, interval);
+            } else {
+                openIsRefused(run, answers[Integer.numberOfTrailingZeros(reasons)], kind, strength, interval);
+            }
         }
     }
 
@@ -339,6 +342,20 @@ public final class OpenEdgesTest {
         }
     }
 
+    /** Whatever the object did ahead of it, a first seeding is made of its own R and A alone. */
+    static void promise7_firstSeedingBehindOtherWork() {
+        for (int kind = 0; kind < 8; kind++) {
+            int of = kind;
+            int first = Kinds.first(kind, 128);
+            Run bare = new Run().waiting(first).tape(5).then(well -> well.open(of, 128, false, 9));
+            for (int before = 0; before < 8; before++) {
+                Run busy = Kinds.inUse(before, false, 9, 0).tape(200).then(well -> well.mac(true));
+                Run run = opens(busy.waiting(first).tape(5), 1, kind, 128, 9);
+                run.stateIs("V", 1, 0, bare.state(0, 0)).stateIs("C or K", 1, 1, bare.state(0, 1));
+            }
+        }
+    }
+
     // 8: "It is closed: its STATE is 0s: true; false: no such one."
 
     private static void closeIsRefused(Run run, int g) {
@@ -392,11 +409,13 @@ public final class OpenEdgesTest {
     }
 
     static void promise8_aNewOneInItsPlaceBeginsAnew() {
-        Run run = new Run().waiting(24).then(well -> well.open(2, 128, true, 9));
-        run = run.then(well -> well.draw(0, 40, 0, false)).then(well -> well.close(0));
-        run = run.waiting(24).then(well -> well.open(2, 128, true, 9));
-        Run bare = new Run().waiting(24).then(well -> well.open(2, 128, true, 9));
-        run.stateIs("V", 0, 0, bare.state(0, 0)).stateIs("K", 0, 1, bare.state(0, 1));
-        run.generator(0, 2, 1).generator(0, 6, 0).generator(0, 7, 1);
+        for (int kind = 0; kind < 8; kind++) {
+            int of = kind;
+            Run bare = Kinds.opened(kind, true, 9, 0);
+            Run run = bare.tape(3).then(well -> well.draw(0, 40, 0, false)).then(well -> well.close(0));
+            run = run.waiting(Kinds.first(kind, 128)).answers(0, "open", well -> well.open(of, 128, true, 9));
+            run.stateIs("V", 0, 0, bare.state(0, 0)).stateIs("C or K", 0, 1, bare.state(0, 1));
+            run.generator(0, 2, 1).generator(0, 6, 0).generator(0, 7, 1);
+        }
     }
 }

@@ -1,4 +1,5 @@
 import java.util.Arrays;
+import java.util.function.Function;
 
 /** Promises 14 to 17: a test for each boundary that a sentence on the pieces names. */
 public final class PieceEdgesTest {
@@ -15,6 +16,20 @@ public final class PieceEdgesTest {
     /** Something is drawn that a refusal must leave, and the tape has n bytes. */
     private static Run tape(int n) {
         return new Run().then(well -> well.derive(0, 100)).tape(n);
+    }
+
+    /** Nothing but what is drawn has changed: the tape, the supply and a generator of each sort stay. */
+    private static void onlyDraws(int tape, String name, Function<BitWell, Object> piece) {
+        Run ahead = new Run().waiting(200);
+        for (int kind : new int[] {1, 3, 5, 7}) {
+            ahead = ahead.then(well -> well.open(kind, 112, true, 9));
+        }
+        ahead = ahead.tape(tape);
+        Run behind = ahead.then(piece);
+        Check.isTrue(name + " draws", behind.made().size() > 0);
+        Run drawnAhead = ahead.tape(Check.bytes(3, 1)).then(well -> well.digest(false)).tape(tape);
+        drawnAhead.then(piece).sameAs(behind, name + " with bytes drawn ahead");
+        ahead.sameButForDrawn(behind, name + " changed");
     }
 
     // 14: "D of the TAPE (which stays) is DRAWN: SHA-512, or SHA-256: how many bytes."
@@ -66,6 +81,11 @@ public final class PieceEdgesTest {
             new Run().tape(one).then(well -> well.digest(false)).drawnIs("of " + one, Oracle.hash(false, row));
             new Run().tape(one).then(well -> well.digest(true)).drawnIs("of " + one, Oracle.hash(true, row));
         }
+    }
+
+    static void promise14_nothingElseChanges() {
+        onlyDraws(50, "digest(false)", well -> well.digest(false));
+        onlyDraws(50, "digest(true)", well -> well.digest(true));
     }
 
     // 15: "The TAPE (which stays) is K, of 16 or 32 bytes, and behind it x: E(K, x) is DRAWN: true;
@@ -123,6 +143,11 @@ public final class PieceEdgesTest {
             cipherOf(false, Kinds.row(b, 32));
             cipherOf(true, Kinds.row(b, 48));
         }
+    }
+
+    static void promise15_nothingElseChanges() {
+        onlyDraws(32, "cipher(false)", well -> well.cipher(false));
+        onlyDraws(48, "cipher(true)", well -> well.cipher(true));
     }
 
     // 16: "The TAPE (which stays) is K of d bytes, and m: MAC(K, m) is DRAWN: true; false if it has fewer than d."
@@ -184,6 +209,11 @@ public final class PieceEdgesTest {
             macOf(false, Kinds.row(b, 50));
             macOf(true, Kinds.row(b, 90));
         }
+    }
+
+    static void promise16_nothingElseChanges() {
+        onlyDraws(90, "mac(false)", well -> well.mac(false));
+        onlyDraws(90, "mac(true)", well -> well.mac(true));
     }
 
     // 17: "DERIVE(TAPE, n) is DRAWN (the TAPE stays), n 1 to 200, by D (sort 0, 1), by E (2, 3): true;
@@ -302,6 +332,13 @@ public final class PieceEdgesTest {
                 deriveOf(sort, 33, 32 + n);
                 deriveOf(sort, 33, 192 + n);
             }
+        }
+    }
+
+    static void promise17_nothingElseChanges() {
+        for (int sort = 0; sort < 4; sort++) {
+            int by = sort;
+            onlyDraws(90, "derive(" + sort + ", 77)", well -> well.derive(by, 77));
         }
     }
 }

@@ -149,8 +149,12 @@ public final class ReseedEdgesTest {
         int[] answers = {1, 4, 5, 6};
         for (int reasons = 0; reasons < 16; reasons++) {
             Run run = Kinds.inUse(6, false, 9, (reasons & 8) != 0 ? 31 : 32).tape((reasons & 2) != 0 ? 33 : 32);
-            int want = reasons == 0 ? 0 : answers[Integer.numberOfTrailingZeros(reasons)];
-            reseeds(run, want, reasons & 1, (reasons & 4) != 0);
+            boolean resistance = (reasons & 4) != 0;
+            if (reasons == 0) {
+                reseeds(run, 0, 0, resistance);
+            } else {
+                reseedIsRefused(run, answers[Integer.numberOfTrailingZeros(reasons)], reasons & 1, resistance);
+            }
         }
     }
 

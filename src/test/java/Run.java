@@ -91,8 +91,23 @@ final class Run {
     }
 
     void sameAs(Run other, String what) {
+        same(what, picture(), other.picture());
+    }
+
+    /** Both have it all alike, whatever is drawn. */
+    void sameButForDrawn(Run other, String what) {
         List<String> here = picture();
         List<String> there = other.picture();
+        here.removeIf(Run::tellsDrawn);
+        there.removeIf(Run::tellsDrawn);
+        same(what, here, there);
+    }
+
+    private static boolean tellsDrawn(String line) {
+        return line.startsWith("drawn: ");
+    }
+
+    private static void same(String what, List<String> here, List<String> there) {
         Check.same(what + " lines", here.size(), there.size());
         for (int k = 0; k < Math.min(here.size(), there.size()); k++) {
             Check.same(what, here.get(k), there.get(k));
