@@ -453,6 +453,19 @@ public final class DrawEdgesTest {
         }
     }
 
+    /** How many digests come out makes no difference to what V is then. */
+    static void promise10_aDigestsStateBehindDrawingsAroundABlock() {
+        for (int kind = 0; kind < 2; kind++) {
+            int d = Kinds.BLOCK[kind];
+            Run run = seeded(kind, 5);
+            byte[] v = run.state(0, 0);
+            byte[] want = Oracle.plus(v, summands(kind, run, v));
+            for (int n : new int[] {0, 1, d - 1, d, d + 1, 2 * d, 4096}) {
+                draws(run, 0, n, 0, false).stateIs("V", 0, 0, want).stateIs("C", 0, 1, run.state(0, 1));
+            }
+        }
+    }
+
     // MAC: "if A has bytes MIX(A); V is MAC(K, V), again and again, comes out, n bytes; then MIX(A)."
 
     static void promise10_aMacsDrawingOfNothingWithoutA() {
@@ -479,6 +492,24 @@ public final class DrawEdgesTest {
         }
     }
 
+    /** The last value of V that comes out, even if only in part, is the one that is mixed: none is made behind it. */
+    static void promise10_aMacsStateBehindDrawingsAroundABlock() {
+        for (int kind = 2; kind < 4; kind++) {
+            int d = Kinds.BLOCK[kind];
+            for (int n : new int[] {1, d - 1, d, d + 1, 2 * d, 4096}) {
+                Run run = Kinds.opened(kind, false, 9, 0);
+                byte[] k = run.state(0, 1);
+                byte[] v = run.state(0, 0);
+                for (int made = 0; made < n; made += d) {
+                    v = Oracle.keyed(Kinds.great(kind), k, v);
+                }
+                k = Oracle.keyed(Kinds.great(kind), k, Oracle.join(v, new byte[1]));
+                v = Oracle.keyed(Kinds.great(kind), k, v);
+                draws(run, 0, n, 0, false).stateIs("V", 0, 0, v).stateIs("K", 0, 1, k);
+            }
+        }
+    }
+
     // COUNTER: "if A has bytes, m is DERIVE(A, SEED), of 6, 7 PADDED(A, SEED), and MIX(m); else m is SEED 0s."
 
     static void promise10_aCountersDrawingOfNothing() {
@@ -500,6 +531,20 @@ public final class DrawEdgesTest {
                     v = Arrays.copyOfRange(mixed, seed - 16, seed);
                 }
                 draws(run, 0, 0, 0, false).stateIs("K", 0, 1, k).stateIs("V", 0, 0, v);
+            }
+        }
+    }
+
+    static void promise10_aCountersStateBehindDrawingsAroundABlock() {
+        for (int kind = 4; kind < 8; kind++) {
+            int seed = Kinds.SEED[kind];
+            for (int n : new int[] {1, 15, 16, 17, 32, 4096}) {
+                Run run = Kinds.opened(kind, false, 9, 0);
+                int out = (n + 15) / 16 * 16;
+                byte[] stream = Kinds.stream(run.state(0, 1), run.state(0, 0), out + seed);
+                draws(run, 0, n, 0, false)
+                        .stateIs("K", 0, 1, Arrays.copyOfRange(stream, out, out + seed - 16))
+                        .stateIs("V", 0, 0, Arrays.copyOfRange(stream, out + seed - 16, out + seed));
             }
         }
     }
