@@ -59,6 +59,13 @@ public final class LanguageTest {
     private static final Set<Tree.Kind> RULED_OUT = EnumSet.of(
             Tree.Kind.THROW, Tree.Kind.TRY, Tree.Kind.CATCH, Tree.Kind.SYNCHRONIZED, Tree.Kind.ASSERT,
             Tree.Kind.LAMBDA_EXPRESSION, Tree.Kind.MEMBER_REFERENCE);
+    /** Of what rule 4 leaves, what a class of numbers and rows can need. */
+    private static final Set<String> LIBRARY = Set.of(
+            "java.lang.Object.<init>",
+            "java.lang.Math.max", "java.lang.Math.min", "java.lang.Math.abs",
+            "java.lang.Math.floorDiv", "java.lang.Math.floorMod",
+            "java.lang.System.arraycopy",
+            "java.util.Arrays.copyOf", "java.util.Arrays.copyOfRange", "java.util.Arrays.fill");
 
     private LanguageTest() {
     }
@@ -196,6 +203,12 @@ public final class LanguageTest {
 
         void judge() {
             Check.isTrue("rule 11: classes", classes <= 12);
+            for (Set<ExecutableElement> called : calls.values()) {
+                for (ExecutableElement one : called) {
+                    String name = one.getEnclosingElement() + "." + one.getSimpleName();
+                    Check.isTrue("rule 4: " + name, calls.containsKey(one) || LIBRARY.contains(name));
+                }
+            }
             for (ExecutableElement one : calls.keySet()) {
                 Check.isTrue("rule 11: depth of calls from " + one + ": " + depth(one, new ArrayList<>()),
                         depth(one, new ArrayList<>()) <= 8);
